@@ -662,7 +662,7 @@ public final class ShapedRows {
       return size - mark;
     }
 
-    /** Takes values, which stand by column, through the changes to a newer shape, if it is newer. */
+    /** Takes values, which stand by column, through the changes to a newer shape, if it is one. */
     void carryForth(int[] values, int from, int to) {
       for (int shape = from + 1; shape <= to; shape++) {
         int first = at(values, at(sources, shape));
@@ -683,7 +683,7 @@ public final class ShapedRows {
     }
 
     /**
-     * Takes values through the changes backwards to an older shape, if it is older. What an added
+     * Takes values through the changes backwards to an older shape, if it is one. What an added
      * column leaves behind is not cleared: the way to a shape that has it sets it anew.
      */
     void carryBack(int[] values, int from, int to) {

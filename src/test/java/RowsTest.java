@@ -12,6 +12,7 @@ public final class RowsTest {
     writeByNewerRewrites();
     writeByOlder();
     writeRefused();
+    writeRefusedOfLast();
     writeOutOfRange();
     remove();
     removeMovesCursor();
@@ -50,11 +51,14 @@ public final class RowsTest {
     CHECK.same("promise 7: added number", x.read(0, 2, 1), 55);
     CHECK.same("promise 7: own value is 0", x.read(1, 2, 1), 0);
     CHECK.same("promise 7: undoable", x.count(9), 5);
-    x.write(1, 1, 0, 9);
-    x.remove(1);
-    x.remove(1);
-    CHECK.same("promise 7: a place used again", x.insertBy(1), 1);
-    CHECK.same("promise 7: values are 0 there", x.read(1, 1, 0), 0);
+    x.write(2, 1, 0, 9);
+    x.addNumber(2, 1);
+    x.goOn(3);
+    x.remove(2);
+    CHECK.same("promise 7: a number used again", x.insertBy(1), 2);
+    CHECK.same("promise 7: values are 0 there", x.read(2, 1, 0), 0);
+    CHECK.same("promise 7: it was not rewritten", x.row(2, 3), 0);
+    CHECK.same("promise 7: it has its own shape", x.row(2, 0), 1);
   }
 
   private static void insertByRefused() {
@@ -129,6 +133,20 @@ public final class RowsTest {
     CHECK.badState("promise 8: no such letter in the newest", x, () -> x.write(0, 4, 7, 1));
     CHECK.same("promise 8: the new one with this letter", x.write(0, 4, 0, 1), 4);
     CHECK.same("promise 8: not the former one", x.read(0, 1, 0), 6);
+  }
+
+  /** The last column leaves nothing behind at its place. */
+  private static void writeRefusedOfLast() {
+    ShapedRows x = new ShapedRows();
+    for (int letter = 0; letter < 8; letter++) {
+      x.addNumber(letter, 5);
+    }
+    x.drop(7, 6);
+    x.insert();
+    CHECK.badState("promise 8: the last column is gone", x, () -> x.write(0, 8, 7, 1));
+    CHECK.same("promise 25: the last column is gone", x.against(0, 8, 7), 2);
+    CHECK.same("promise 20: the last column is gone", x.column(8, 7, 2), ShapedRows.NONE);
+    CHECK.same("promise 8: the one ahead of it is there", x.write(0, 8, 6, 1), 9);
   }
 
   private static void writeOutOfRange() {
@@ -280,6 +298,12 @@ public final class RowsTest {
       x.hold(reader, 1 + reader % 2);
     }
     CHECK.badState("promise 12: two readers", x, () -> x.retire(2));
+    for (int reader = 0; reader < 4; reader++) {
+      holdAll(x, 2);
+      x.hold(reader, 1);
+      CHECK.badState("promise 12: reader " + reader + " alone", x, () -> x.retire(2));
+      CHECK.same("promise 23: reader " + reader + " alone", x.count(8), 1);
+    }
     CHECK.same("promise 12: all hold", x.retire(1), 2);
     x.insertBy(1);
     x.insert();

@@ -158,8 +158,8 @@ public final class TextTest {
     }
     ShapedRows x = new ShapedRows();
     CHECK.same("promise 16: rows", Check.run(x, "n;n;n;n;n;n;n;n;n;n;n;n;n;*1"), 12);
-    CHECK.same(
-        "promise 16: shapes", Check.run(x, "+a=1;>ab;>ba;>ab;>ba;>ab;>ba;>ab;>ba;>ab;>ba;>ab;n"), 11);
+    String twelve = "+a=1;>ab;>ba;>ab;>ba;>ab;>ba;>ab;>ba;>ab;>ba;>ab;n";
+    CHECK.same("promise 16: shapes", Check.run(x, twelve), 11);
   }
 
   private static void runRefused() {
