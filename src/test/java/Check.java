@@ -71,6 +71,12 @@ final class Check {
     }
   }
 
+  static void holdAll(ShapedRows x, int shape) {
+    for (int reader = 0; reader < 4; reader++) {
+      x.hold(reader, shape);
+    }
+  }
+
   /** Clears the buffer, types a text and runs it. */
   static int run(ShapedRows x, String text) {
     x.clearBuffer();

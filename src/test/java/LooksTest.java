@@ -85,7 +85,7 @@ public final class LooksTest {
     CHECK.badArgument("promise 18: letter -1", x, () -> x.read(0, 1, -1));
     CHECK.badArgument("promise 18: letter 8", x, () -> x.read(0, 1, 8));
     CHECK.same("promise 18: no such letter", x.read(0, 1, 7), ShapedRows.NONE);
-    holdAll(x, 1);
+    Check.holdAll(x, 1);
     x.retire(1);
     CHECK.badIndex("promise 18: retired", x, () -> x.read(0, 0, 0));
   }
@@ -138,7 +138,7 @@ public final class LooksTest {
     CHECK.badArgument("promise 20: what -1", x, () -> x.column(5, 0, -1));
     CHECK.badArgument("promise 20: what 3", x, () -> x.column(5, 0, 3));
     CHECK.badArgument("promise 20: what 3 behind all", x, () -> x.column(5, 9, 3));
-    holdAll(x, 5);
+    Check.holdAll(x, 5);
     x.retire(5);
     CHECK.same("promise 20: retired", x.column(3, 0, 0), 3);
   }
@@ -162,7 +162,7 @@ public final class LooksTest {
     CHECK.badIndex("promise 21: index first", x, () -> x.shape(3, 6));
     CHECK.badArgument("promise 21: what -1", x, () -> x.shape(0, -1));
     CHECK.badArgument("promise 21: what 6", x, () -> x.shape(0, 6));
-    holdAll(x, 1);
+    Check.holdAll(x, 1);
     x.retire(1);
     CHECK.same("promise 21: retired", x.shape(0, 4), 1);
     CHECK.same("promise 21: change of a retired one", x.shape(0, 1), 0);
@@ -198,7 +198,7 @@ public final class LooksTest {
     x.addNumber(0, 5);
     x.addNumber(1, 6);
     x.addNumber(2, 6);
-    holdAll(x, 2);
+    Check.holdAll(x, 2);
     x.insertBy(1);
     x.insertBy(2);
     x.insert();
@@ -213,7 +213,7 @@ public final class LooksTest {
     }
     x.goOn(2);
     CHECK.same("promise 23: a reader holds the oldest", x.count(8), 2);
-    holdAll(x, 3);
+    Check.holdAll(x, 3);
     CHECK.same("promise 23: all are new", x.count(8), 3);
     CHECK.same("promise 23: none is older", x.count(3), 0);
     CHECK.badArgument("promise 23: -1", x, () -> x.count(-1));
@@ -237,11 +237,5 @@ public final class LooksTest {
     x.find(1, 0, 5);
     x.freshShare();
     CHECK.same("nothing is changed by looks", x.digest(), before);
-  }
-
-  private static void holdAll(ShapedRows x, int shape) {
-    for (int reader = 0; reader < 4; reader++) {
-      x.hold(reader, shape);
-    }
   }
 }

@@ -68,7 +68,7 @@ public final class RowsTest {
     CHECK.badIndex("promise 7: 2", x, () -> x.insertBy(2));
     CHECK.badIndex("promise 7: least", x, () -> x.insertBy(Integer.MIN_VALUE));
     CHECK.badIndex("promise 7: most", x, () -> x.insertBy(Integer.MAX_VALUE));
-    holdAll(x, 1);
+    Check.holdAll(x, 1);
     x.retire(1);
     CHECK.badIndex("promise 7: retired", x, () -> x.insertBy(0));
     CHECK.same("promise 7: the mark itself", x.insertBy(1), 0);
@@ -163,7 +163,7 @@ public final class RowsTest {
     CHECK.badArgument("promise 8: value -1", x, () -> x.write(0, 1, 0, -1));
     CHECK.badArgument("promise 8: value 100000", x, () -> x.write(0, 1, 0, 100000));
     CHECK.badArgument("promise 8: argument ahead of state", x, () -> x.write(0, 1, 1, 100000));
-    holdAll(x, 1);
+    Check.holdAll(x, 1);
     x.retire(1);
     CHECK.badIndex("promise 8: retired", x, () -> x.write(0, 0, 0, 0));
   }
@@ -260,7 +260,7 @@ public final class RowsTest {
     CHECK.badIndex("promise 11: reader 4", x, () -> x.hold(4, 0));
     CHECK.badIndex("promise 11: shape -1", x, () -> x.hold(0, -1));
     CHECK.badIndex("promise 11: shape 3", x, () -> x.hold(0, 3));
-    holdAll(x, 1);
+    Check.holdAll(x, 1);
     x.retire(1);
     CHECK.badIndex("promise 11: retired", x, () -> x.hold(0, 0));
     CHECK.same("promise 11: the mark", x.hold(0, 1), 1);
@@ -272,7 +272,7 @@ public final class RowsTest {
     x.addNumber(1, 5);
     CHECK.same("promise 12: the first one", x.retire(0), 3);
     CHECK.same("promise 12: undoable", x.count(9), 3);
-    holdAll(x, 2);
+    Check.holdAll(x, 2);
     x.insertBy(1);
     CHECK.same("promise 12: a row has it", x.retire(1), 2);
     CHECK.same("promise 12: mark", x.count(1), 1);
@@ -299,7 +299,7 @@ public final class RowsTest {
     }
     CHECK.badState("promise 12: two readers", x, () -> x.retire(2));
     for (int reader = 0; reader < 4; reader++) {
-      holdAll(x, 2);
+      Check.holdAll(x, 2);
       x.hold(reader, 1);
       CHECK.badState("promise 12: reader " + reader + " alone", x, () -> x.retire(2));
       CHECK.same("promise 23: reader " + reader + " alone", x.count(8), 1);
@@ -307,7 +307,7 @@ public final class RowsTest {
     CHECK.same("promise 12: all hold", x.retire(1), 2);
     x.insertBy(1);
     x.insert();
-    holdAll(x, 2);
+    Check.holdAll(x, 2);
     CHECK.badState("promise 12: a row", x, () -> x.retire(2));
     x.remove(0);
     CHECK.same("promise 12: row removed", x.retire(2), 1);
@@ -320,11 +320,5 @@ public final class RowsTest {
       x.insertBy(0);
     }
     return x;
-  }
-
-  private static void holdAll(ShapedRows x, int shape) {
-    for (int reader = 0; reader < 4; reader++) {
-      x.hold(reader, shape);
-    }
   }
 }

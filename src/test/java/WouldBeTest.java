@@ -67,7 +67,7 @@ public final class WouldBeTest {
     CHECK.badIndex("promise 24: row 1", x, () -> x.lost(1, 0));
     CHECK.badIndex("promise 24: shape -1", x, () -> x.lost(0, -1));
     CHECK.badIndex("promise 24: shape 2", x, () -> x.lost(0, 2));
-    holdAll(x, 1);
+    Check.holdAll(x, 1);
     x.retire(1);
     CHECK.badIndex("promise 24: retired", x, () -> x.lost(0, 0));
   }
@@ -103,7 +103,7 @@ public final class WouldBeTest {
     CHECK.badIndex("promise 25: index first", x, () -> x.against(0, 2, 8));
     CHECK.badArgument("promise 25: letter -1", x, () -> x.against(0, 1, -1));
     CHECK.badArgument("promise 25: letter 8", x, () -> x.against(0, 1, 8));
-    holdAll(x, 1);
+    Check.holdAll(x, 1);
     x.retire(1);
     CHECK.badIndex("promise 25: retired", x, () -> x.against(0, 0, 0));
   }
@@ -186,7 +186,7 @@ public final class WouldBeTest {
     CHECK.badArgument("promise 27: value -1", x, () -> x.find(1, 0, -1));
     CHECK.badArgument("promise 27: value 100000", x, () -> x.find(1, 0, 100000));
     CHECK.badArgument("promise 27: value -1, no such letter", x, () -> x.find(1, 5, -1));
-    holdAll(x, 1);
+    Check.holdAll(x, 1);
     x.retire(1);
     CHECK.badIndex("promise 27: retired", x, () -> x.find(0, 0, 0));
   }
@@ -267,11 +267,5 @@ public final class WouldBeTest {
       hash = 31 * hash + value;
     }
     return hash;
-  }
-
-  private static void holdAll(ShapedRows x, int shape) {
-    for (int reader = 0; reader < 4; reader++) {
-      x.hold(reader, shape);
-    }
   }
 }
