@@ -6,6 +6,7 @@ import java.util.ArrayList;
 import java.util.LinkedHashMap;
 import java.util.List;
 import java.util.Map;
+import java.util.stream.Stream;
 
 /**
  * The document by its headings. A test claims the words of a sentence that it tests; what no test
@@ -16,6 +17,8 @@ final class Document {
 
   /** Signatures and titles, which promise nothing beyond what stands behind them. */
   private static final String[] NO_PROMISE = {
+    "(?m)^Rows of several shapes: .*$",
+    "(?m)^```java$",
     "(?m)^`[^`]*`: ",
     "(?m)^Shapes, columns$",
     "(?m)^Readers, retiring$",
@@ -50,6 +53,11 @@ final class Document {
       claimed.get(heading)[i] = true;
     }
     return true;
+  }
+
+  /** What stands under a heading, line by line. */
+  Stream<String> linesOf(String heading) {
+    return texts.getOrDefault(heading, "").lines();
   }
 
   /** The words that no test has claimed, under the headings from one to ahead of another. */

@@ -1,5 +1,6 @@
 import java.util.ArrayList;
 import java.util.List;
+import java.util.stream.Stream;
 
 /**
  * What the tests of the document's sentences share. Each test names its sentence first; a fault is
@@ -39,6 +40,10 @@ final class Edges {
   void about(String heading, String sentence) {
     about = heading + ", '" + sentence + "'";
     check.isTrue(place() + " stands once in the document", document.claims(heading, sentence));
+  }
+
+  Stream<String> lines(String heading) {
+    return document.linesOf(heading);
   }
 
   static ShapedRows made(Calls before) {

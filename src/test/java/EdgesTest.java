@@ -7,6 +7,7 @@ public final class EdgesTest {
 
   public static void main(String[] args) {
     Edges edges = new Edges();
+    new FaceEdges(edges).all();
     new TermsEdges(edges).all();
     new ShapesEdges(edges).all();
     new RowsEdges(edges).all();
@@ -14,6 +15,6 @@ public final class EdgesTest {
     new TextEdges(edges).all();
     new LooksEdges(edges).all();
     new WouldBeEdges(edges).all();
-    edges.end("EdgesTest", "Terms", "Not promised");
+    edges.end("EdgesTest", "What it is", "Not promised");
   }
 }
